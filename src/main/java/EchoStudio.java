@@ -25,8 +25,9 @@ public final class EchoStudio {
     private static final int NO_SUCH = 8;
     private static final int ANY = 9;
 
-    // The words of the score: the constants below are their places, the four rows one behind the other.
-    private static final String DOING_WORDS = "loop drum drop head set put glide copy turn scene recall plug pull burst ";
+    // The words of the score: the constants below are their places, the five rows one behind the other.
+    private static final String DECK_WORDS = "loop drum drop head set put glide copy turn scene recall ";
+    private static final String DESK_WORDS = "plug pull burst ";
     private static final String LEADING_WORDS = "wait do start stop if while try on else end part ";
     private static final String SUM_WORDS = "dial cell place length sum loud abs whole least most now hurt ";
     private static final String REFUSAL_WORDS = "missing off size room zero full deep none any ";
@@ -248,7 +249,7 @@ public final class EchoStudio {
         return deck.hasLoop(n) ? deck.loudest(n) : 0;
     }
 
-    /** DOUBLES as their bits, reckoned in whole numbers: so a NaN is a value like others, and none is ever made by the machine. */
+    /** DOUBLES as their bits, reckoned in whole numbers: so a NaN is one value of many, and the machine makes none. */
     private static final class Reals {
         static final long TWO = 0x4000000000000000L;
         static final long FOUR = 0x4010000000000000L;
@@ -415,7 +416,7 @@ public final class EchoStudio {
             long m = x & SINGLE_HIDDEN - 1;
             if (e == 0) {
                 e = 1;
-                while (m < SINGLE_HIDDEN) {
+                while (m < SINGLE_HIDDEN && e > -23) {
                     m <<= 1;
                     e--;
                 }
@@ -1267,6 +1268,7 @@ public final class EchoStudio {
 
     /** Reads a text as a SCORE, TOKEN by TOKEN; behind the first fault nothing more is looked at. */
     private static final class Reader {
+        private static final int BAD_TOKEN = 1;
         private static final int CANT_STAND = 2;
         private static final int PART_TWICE = 3;
         private static final int TOO_OPEN = 4;
@@ -1298,7 +1300,8 @@ public final class EchoStudio {
         private boolean inPart;
 
         Reader() {
-            int known = learn(DOING_WORDS, 0);
+            int known = learn(DECK_WORDS, 0);
+            known = learn(DESK_WORDS, known);
             known = learn(LEADING_WORDS, known);
             known = learn(SUM_WORDS, known);
             learn(REFUSAL_WORDS, known);
@@ -1332,7 +1335,7 @@ public final class EchoStudio {
             lines = 0;
             inPart = false;
             tokens.scan(text, length);
-            while (fault == 0 && kind() != Tokens.TEXT_END) {
+            for (int i = 0; i < Tokens.MOST_OF_THEM && fault == 0 && kind() != Tokens.TEXT_END; i++) {
                 if (inPart) {
                     readLine();
                 } else {
@@ -1391,7 +1394,7 @@ public final class EchoStudio {
 
         private void fail(int newFault) {
             if (fault == 0) {
-                fault = kind() == Tokens.BAD ? 1 : newFault;
+                fault = tokens.kind[at] == Tokens.BAD ? BAD_TOKEN : newFault;
                 faultLine = tokens.line[at];
             }
         }
@@ -1515,7 +1518,12 @@ public final class EchoStudio {
             int step = addLine(word, NONE);
             at++;
             if (word != TRY) {
-                readCondition();
+                readSum();
+                int sign = kind();
+                expect(sign == '<' || sign == '>' ? sign : '=');
+                readSum();
+                score.addCode(sign == '<' ? LESS : sign == '>' ? MORE : SAME, 0);
+                score.addCode(OVER, 0);
             }
             if (blocks < OPEN_MOST) {
                 blockWord[blocks] = word;
@@ -1523,19 +1531,6 @@ public final class EchoStudio {
                 blockLast[blocks] = step;
                 blocks++;
             }
-        }
-
-        private void readCondition() {
-            readSum();
-            int sign = kind();
-            if (sign == '<' || sign == '>' || sign == '=') {
-                expect(sign);
-            } else {
-                fail(CANT_STAND);
-            }
-            readSum();
-            score.addCode(sign == '<' ? LESS : sign == '>' ? MORE : SAME, 0);
-            score.addCode(OVER, 0);
         }
 
         private int innermost() {
@@ -1594,55 +1589,58 @@ public final class EchoStudio {
             }
         }
 
-        /** The three that follow call one another, as deep as OPEN_MOST lets them. */
+        /** This and readFactor call one another, as deep as OPEN_MOST lets them. */
         private void readSum() {
-            readTerm();
-            while (fault == 0 && (kind() == '+' || kind() == '-')) {
-                int code = kind() == '+' ? ADD : SUBTRACT;
-                at++;
-                readTerm();
-                score.addCode(code, 0);
+            int times = NONE;
+            int plus = NONE;
+            boolean goesOn = true;
+            for (int i = 0; i < Tokens.MOST_OF_THEM && goesOn && fault == 0; i++) {
+                readFactor();
+                addWaiting(times);
+                times = kind() == '*' ? MULTIPLY : kind() == '/' ? DIVIDE : NONE;
+                goesOn = times != NONE;
+                if (!goesOn) {
+                    addWaiting(plus);
+                    plus = kind() == '+' ? ADD : kind() == '-' ? SUBTRACT : NONE;
+                    goesOn = plus != NONE;
+                }
+                if (goesOn && fault == 0) {
+                    at++;
+                }
             }
         }
 
-        private void readTerm() {
-            readFactor();
-            while (fault == 0 && (kind() == '*' || kind() == '/')) {
-                int code = kind() == '*' ? MULTIPLY : DIVIDE;
-                at++;
-                readFactor();
+        /** Adds the code of a SIGN whose right side has been read. */
+        private void addWaiting(int code) {
+            if (code != NONE) {
                 score.addCode(code, 0);
             }
         }
 
         private void readFactor() {
-            if (fault != 0) {
-                return;
-            }
             int word = wordAmong(DIAL, HURT);
             if (kind() == Tokens.FIGURE) {
                 score.addCode(NUMBER, tokens.value[at]);
                 at++;
-            } else if (kind() == '-' && opens()) {
-                at++;
-                readFactor();
-                open--;
-                score.addCode(NEGATE, 0);
-            } else if (kind() == '(') {
-                readEnclosed(1);
-            } else if (word == NOW || word == HURT) {
-                score.addCode(word, 0);
-                at++;
-            } else if (word != NONE) {
-                at++;
-                readEnclosed(word == LEAST || word == MOST ? 2 : 1);
-                score.addCode(word, 0);
-            } else {
-                fail(CANT_STAND);
+                return;
             }
-        }
-
-        private void readEnclosed(int sums) {
+            if (word == NOW || word == HURT) {
+                score.addCode(word, 0);
+                at++;
+                return;
+            }
+            if (kind() == '-') {
+                if (opens()) {
+                    at++;
+                    readFactor();
+                    open--;
+                    score.addCode(NEGATE, 0);
+                }
+                return;
+            }
+            if (word != NONE) {
+                at++;
+            }
             if (kind() != '(') {
                 fail(CANT_STAND);
             }
@@ -1650,14 +1648,14 @@ public final class EchoStudio {
                 return;
             }
             at++;
-            for (int i = 0; i < sums; i++) {
-                if (i > 0) {
-                    expect(',');
-                }
+            readSum();
+            if (word == LEAST || word == MOST) {
+                expect(',');
                 readSum();
             }
             expect(')');
             open--;
+            addWaiting(word);
         }
     }
 
@@ -1950,6 +1948,9 @@ public final class EchoStudio {
                     refusal = word <= RECALL ? deck.obey(word, sums.row)
                             : word <= BURST ? obeyAtDesk(word, sums.row) : lead(player, word, step);
                 }
+                if (refusal == 0 && word == BURST) {
+                    refusal = acts.repeat(asked, Reals.whole(sums.row[5]));
+                }
                 if (refusal != 0) {
                     refuse(player, refusal);
                 } else if (word <= BURST) {
@@ -2042,21 +2043,26 @@ public final class EchoStudio {
 
         /** The on that takes a refusal, of this try or the nearest around it; NONE without one. */
         private int onFor(int refusal, int innermost) {
-            for (int block = innermost; block != NONE; block = score.guard[block]) {
-                for (int on = score.nextOn[block]; on != NONE; on = score.nextOn[on]) {
+            int block = innermost;
+            for (int i = 0; i < Score.STEPS_MOST && block != NONE; i++) {
+                int on = score.nextOn[block];
+                for (int k = 0; k < Score.STEPS_MOST && on != NONE; k++) {
                     if (score.to[on] == refusal || score.to[on] == ANY) {
                         return on;
                     }
+                    on = score.nextOn[on];
                 }
+                block = score.guard[block];
             }
             return NONE;
         }
 
-        /** Does plug, pull or burst: its refusal, or 0. */
+        /** Does plug or pull, or makes the box ready that is asked to burst: the refusal, or 0. */
         private int obeyAtDesk(int word, long[] e) {
             int first = Reals.whole(e[0]);
             if (word == BURST) {
-                return burst(e, Reals.whole(e[5]));
+                asked.fill(e, 0);
+                return asked.stands() && Reals.whole(e[5]) <= BURST_MOST ? 0 : NO_SUCH;
             }
             if (first < 0 || first >= SLOTS) {
                 return NO_SUCH;
@@ -2073,14 +2079,6 @@ public final class EchoStudio {
             }
             boxes[first].copyFrom(asked);
             return 0;
-        }
-
-        private int burst(long[] e, int times) {
-            asked.fill(e, 0);
-            if (!asked.stands() || times > BURST_MOST) {
-                return NO_SUCH;
-            }
-            return acts.repeat(asked, times);
         }
 
         /** Lets the box of a SLOT act, if it is its time: whether it HALTS the run. */
