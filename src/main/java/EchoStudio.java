@@ -885,6 +885,22 @@ public final class EchoStudio {
      * so each KIND is written as one straight chain that may break off anywhere.
      */
     private static final class Acts {
+        // The KINDS; GRAIN (7) and PICK (15) are what is left of each eight.
+        private static final int TAPE = 0;
+        private static final int LIFT = 1;
+        private static final int MIX = 2;
+        private static final int FADE = 3;
+        private static final int BOUNCE = 4;
+        private static final int LADDER = 5;
+        private static final int ECHO = 6;
+        private static final int SCATTER = 8;
+        private static final int STAMMER = 9;
+        private static final int SMOOTH = 10;
+        private static final int SWELL = 11;
+        private static final int CHASE = 12;
+        private static final int RING = 13;
+        private static final int HALVE = 14;
+
         // How a HEAD moves as its CELL is taken.
         private static final int STAY = 0;
         private static final int THEN_ON = 1;
@@ -912,7 +928,7 @@ public final class EchoStudio {
             for (int i = 0; i < times && refusal == 0; i++) {
                 taken = 0;
                 ledger.acts++;
-                if (box.kind < 8) {
+                if (box.kind < SCATTER) {
                     doTapeToGrain(box.kind, box.p, box.q, box.r, box.g);
                 } else {
                     doScatterToPick(box.kind, box.p, box.q, box.r, box.g);
@@ -926,32 +942,32 @@ public final class EchoStudio {
             int left;
             long value;
             switch (kind) {
-                case 0:
+                case TAPE:
                     left = take(SINGLES, p, THEN_ON);
                     set(left, told(take(DOUBLES, q, THEN_ON)));
                     break;
-                case 1:
+                case LIFT:
                     left = take(DOUBLES, p, THEN_BACK);
                     set(left, told(take(SINGLES, q, THEN_ON)));
                     break;
-                case 2:
+                case MIX:
                     left = take(DOUBLES, p, STAY);
                     value = told(left);
                     set(left, Reals.add(value, Reals.multiply(told(take(SINGLES, q, THEN_ON)), dial)));
                     break;
-                case 3:
+                case FADE:
                     left = take(SINGLES, p, THEN_ON);
                     set(left, Reals.multiply(told(left), dial));
                     break;
-                case 4:
+                case BOUNCE:
                     left = take(SINGLES, p, THEN_ON);
                     set(left, set(take(SINGLES, q, THEN_BACK), told(take(DOUBLES, r, THEN_ON))));
                     break;
-                case 5:
+                case LADDER:
                     left = take(DOUBLES, p, THEN_ON);
                     set(left, set(take(DOUBLES, q, THEN_ON), Reals.multiply(told(take(DOUBLES, r, THEN_ON)), dial)));
                     break;
-                case 6:
+                case ECHO:
                     left = take(DOUBLES, p, THEN_ON);
                     value = told(take(DOUBLES, q, THEN_ON));
                     set(left, Reals.add(value, Reals.multiply(told(take(DOUBLES, r, THEN_BACK)), dial)));
@@ -969,29 +985,29 @@ public final class EchoStudio {
             int left;
             long value;
             switch (kind) {
-                case 8:
+                case SCATTER:
                     left = takeAt(DOUBLES, q, Reals.whole(told(take(SINGLES, r, THEN_ON))));
                     set(left, Reals.multiply(told(take(SINGLES, p, THEN_ON)), dial));
                     break;
-                case 9:
+                case STAMMER:
                     // In DOUBLES, then brought to a SINGLE: that is what SINGLES alone would come to.
                     left = take(SINGLES, p, STAY);
                     value = told(take(SINGLES, p, FIRST_ON));
                     set(left, Reals.subtract(value, told(take(SINGLES, p, THEN_BACK))));
                     break;
-                case 10:
+                case SMOOTH:
                     left = take(DOUBLES, p, THEN_ON);
                     value = told(takeAt(DOUBLES, q, deck.place[q] - 1));
                     value = Reals.add(value, Reals.multiply(told(take(DOUBLES, q, STAY)), Reals.TWO));
                     value = Reals.add(value, told(take(DOUBLES, q, FIRST_ON)));
                     set(left, Reals.divide(value, Reals.FOUR));
                     break;
-                case 11:
+                case SWELL:
                     value = told(take(SINGLES, p, THEN_ON));
                     value = Reals.multiply(value, told(take(DOUBLES, q, THEN_ON)));
                     deck.dials[g] = refusal == 0 ? Reals.add(dial, value) : dial;
                     break;
-                case 12:
+                case CHASE:
                     left = take(DOUBLES, p, THEN_ON);
                     value = told(left);
                     int next = take(SINGLES, q, THEN_ON);
@@ -999,12 +1015,12 @@ public final class EchoStudio {
                     nextValue = Reals.subtract(nextValue, told(take(DOUBLES, r, THEN_ON)));
                     set(left, Reals.subtract(value, set(next, nextValue)));
                     break;
-                case 13:
+                case RING:
                     left = take(DOUBLES, p, FIRST_ON);
                     value = told(left);
                     set(left, Reals.multiply(value, told(take(DOUBLES, p, FIRST_BACK))));
                     break;
-                case 14:
+                case HALVE:
                     left = take(SINGLES, p, THEN_ON);
                     value = told(left);
                     set(left, Reals.divide(value, told(take(DOUBLES, q, THEN_ON))));
@@ -1858,6 +1874,13 @@ public final class EchoStudio {
         private static final int LINES_IN_TICK = 40;
         private static final int BURST_MOST = 300;
         private static final int WHERE_PARTS_BEGIN = 100;
+        // The ANSWERS that are none of a PART.
+        private static final int PASS = 0;
+        private static final int HOME = 1;
+        private static final int ROUND = 2;
+        private static final int EMPTY = 3;
+        private static final int HALT = 4;
+        private static final int HALVE_DIAL = 5;
         // Far above the ways between two LINES: twelve PARTS, in each of them twenty blocks.
         private static final int WAYS_MOST = 1000;
 
@@ -2098,18 +2121,18 @@ public final class EchoStudio {
 
         private boolean answer(Box box) {
             switch (box.answer) {
-                case 0:
+                case PASS:
                     return false;
-                case 1:
-                case 2:
-                    bringBack(box, box.answer == 1);
+                case HOME:
+                case ROUND:
+                    bringBack(box, box.answer == HOME);
                     return false;
-                case 3:
+                case EMPTY:
                     box.kind = NONE;
                     return false;
-                case 4:
+                case HALT:
                     return true;
-                case 5:
+                case HALVE_DIAL:
                     deck.setDial(box.g, Reals.multiply(deck.dials[box.g], Reals.HALF));
                     return false;
                 default:
