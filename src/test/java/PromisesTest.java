@@ -463,6 +463,9 @@ public final class PromisesTest {
         x = played(2, "set 0=0", "while dial(0)<20", "drum 1,300", "set 0=dial(0)+1", "end");
         due("6,000 cells", x.count(11), 6000);
         due("no refusal", x.count(9), 0);
+        playMore(x, 1, "loop 2,0", "loop 2,1");
+        due("one of no cells", x.loop(2, 1), 0);
+        due("the 6,001st", x.count(9), 4);
 
         String[] cells = {"loop 0,3", "head 0,0,0", "put 0=0.1", "put 0=-2", "put 0=999999.9999"};
         String all = String.join("\n", cells);
