@@ -1,15 +1,5 @@
 /** The document's promises, one by one: ordinary inputs, the edges that it names, and wrong inputs. */
-public final class PromisesTest {
-    private static final int NONE = EchoStudio.NONE;
-    private static final int LEAST = Integer.MIN_VALUE;
-    private static final int GREATEST = Integer.MAX_VALUE;
-    private static final double NAN = Double.NaN;
-    private static final double INF = Double.POSITIVE_INFINITY;
-
-    private static int wrong = 0;
-    private static int asked = 0;
-    private static String promise = "";
-
+public final class PromisesTest extends Probe {
     public static void main(String[] args) {
         aNewObject();
         feed();
@@ -40,67 +30,11 @@ public final class PromisesTest {
         count();
         met();
         peak();
-        if (wrong > 0) {
-            System.out.println(wrong + " of " + asked + " answers are wrong");
-            System.exit(1);
-        }
-        System.out.println("all " + asked + " answers are as due");
-    }
-
-    private static void due(String what, long got, long want) {
-        asked++;
-        if (got != want) {
-            wrong++;
-            System.out.println(promise + ": " + what + " answered " + got + ", due is " + want);
-        }
-    }
-
-    private static long bits(double d) {
-        return Double.doubleToLongBits(d);
-    }
-
-    private static long bits(float f) {
-        return Float.floatToIntBits(f);
-    }
-
-    /** Feeds a text, as twenties of bytes, and takes back what is behind it. */
-    private static void feedText(EchoStudio x, String text) {
-        int fed = 0;
-        for (; fed < text.length(); fed += 20) {
-            int[] five = new int[5];
-            for (int i = 0; i < 20; i++) {
-                int c = fed + i < text.length() ? text.charAt(fed + i) : ' ';
-                five[i / 4] |= c << 24 - 8 * (i % 4);
-            }
-            x.feed(five[0], five[1], five[2], five[3], five[4]);
-        }
-        x.back(fed - text.length());
-    }
-
-    private static int readText(EchoStudio x, String text) {
-        feedText(x, text);
-        return x.read();
-    }
-
-    private static int fault(String text) {
-        return readText(new EchoStudio(), text);
-    }
-
-    /** A studio whose PART 0 has these LINES (behind a PART's end, others may begin), played for so many ticks. */
-    private static EchoStudio played(int ticks, String... lines) {
-        EchoStudio x = new EchoStudio();
-        playMore(x, ticks, lines);
-        return x;
-    }
-
-    private static void playMore(EchoStudio x, int ticks, String... lines) {
-        due("read() of " + String.join("|", lines), readText(x, "part main\n" + String.join("\n", lines) + "\nend\n"), 0);
-        x.play(0);
-        x.run(ticks);
+        finish();
     }
 
     private static void aNewObject() {
-        promise = "1";
+        about("promise 1");
         due("NONE", EchoStudio.NONE, -1);
         EchoStudio x = new EchoStudio();
         for (int n = 0; n < 12; n++) {
@@ -128,7 +62,7 @@ public final class PromisesTest {
     }
 
     private static void feed() {
-        promise = "2";
+        about("promise 2");
         EchoStudio x = new EchoStudio();
         // "part", " a\n ", "end\n", two times blanks
         due("feed", x.feed(0x70617274, 0x20610A20, 0x656E640A, 0x20202020, 0x20202020), 20);
@@ -146,7 +80,7 @@ public final class PromisesTest {
     }
 
     private static void back() {
-        promise = "3";
+        about("promise 3");
         EchoStudio x = new EchoStudio();
         feedText(x, "part a\nend\nwhat is behind goes");
         due("back", x.back(19), 11);
@@ -162,7 +96,7 @@ public final class PromisesTest {
     }
 
     private static void read() {
-        promise = "4";
+        about("promise 4");
         due("a plain one", fault("part a\nend\n"), 0);
         due("without a last 10", fault("part a\nend"), 0);
         due("blanks, remarks, empty lines", fault("\n ;x\n  part   a ; \t\u00ff\n\n;\nend;\n ; end"), 0);
@@ -218,20 +152,12 @@ public final class PromisesTest {
         due("a name twice, ahead of what is behind", fault("part a\nend\npart a %\n"), 35);
     }
 
-    private static String repeated(String s, int times) {
-        StringBuilder all = new StringBuilder();
-        for (int i = 0; i < times; i++) {
-            all.append(s);
-        }
-        return all.toString();
-    }
-
     private static String of(String lines) {
         return "part a\n" + lines + "end\n";
     }
 
     private static void readTheWhole() {
-        promise = "4";
+        about("promise 4");
         due("20 blocks", fault(of(repeated("if 0<1\n", 20) + repeated("end\n", 20))), 0);
         due("21 blocks", fault(of(repeated("try\n", 21) + repeated("end\n", 21))), 16 * 21 + 4);
         due("20 (", fault(of("set 0=" + repeated("(", 20) + "1" + repeated(")", 20) + "\n")), 0);
@@ -267,7 +193,7 @@ public final class PromisesTest {
     }
 
     private static void readKeepsAndDrops() {
-        promise = "4";
+        about("promise 4");
         EchoStudio x = played(1, "loop 3,2", "set 1=5", "head 2,3,1", "plug 4,0,1,2,3,4,7,0", "wait 9");
         due("players", x.count(2), 1);
         due("a fault", readText(x, "part b\nend\npart b\n"), 35);
@@ -287,7 +213,7 @@ public final class PromisesTest {
     }
 
     private static void play() {
-        promise = "5";
+        about("promise 5");
         EchoStudio x = new EchoStudio();
         due("no score", x.play(0), NONE);
         readText(x, "part a\nwait 1\nend\npart b\nend\n");
@@ -307,7 +233,7 @@ public final class PromisesTest {
     }
 
     private static void run() {
-        promise = "6";
+        about("promise 6");
         EchoStudio x = new EchoStudio();
         due("run", x.run(-1), NONE);
         due("run", x.run(501), NONE);
@@ -346,7 +272,7 @@ public final class PromisesTest {
     }
 
     private static void runSlots() {
-        promise = "6";
+        about("promise 6");
         EchoStudio x = played(1, "loop 0,9", "drum 1,9", "head 0,0,0", "head 1,1,0", "plug 1,0,0,1,0,0,1,0", "plug 0,0,0,1,0,0,3,0");
         due("both in the tick of their plug", x.head(0, 1), 2);
         x.run(1);
@@ -388,7 +314,7 @@ public final class PromisesTest {
     }
 
     private static void answers() {
-        promise = "6";
+        about("promise 6");
         String[] desk = {"loop 0,4", "drum 1,4", "head 0,0,9", "head 1,1,-6", "head 2,1,7", "set 3=3", "glide 3,9,9"};
         EchoStudio x = answered(desk, "plug 2,0,0,1,2,3,1,0");
         due("PASS", x.head(0, 1), 10);
@@ -428,13 +354,8 @@ public final class PromisesTest {
         return played(1, String.join("\n", desk), String.join("\n", more));
     }
 
-    /** The kind of the refusal of a LINE behind others; 0 for none. */
-    private static int refused(String... lines) {
-        return played(1, lines).count(9);
-    }
-
     private static void linesOfLoops() {
-        promise = "6";
+        about("promise 6");
         EchoStudio x = played(1, "loop 0,3.9", "drum 11,300", "loop 2,0", "head 0,0,0", "put 0=1", "loop 0,3", "drop 2", "drop 5");
         due("loop", x.loop(0, 0), 0);
         due("loop", x.loop(0, 1), 3);
@@ -493,7 +414,7 @@ public final class PromisesTest {
     }
 
     private static void linesOfHeadsAndDials() {
-        promise = "6";
+        about("promise 6");
         EchoStudio x = played(1, "head 9,11,-7.5", "head 8,0,999999*999999", "set 9=0.1", "set 0=-0");
         due("head", x.head(9, 0), 11);
         due("head", x.head(9, 1), -7);
@@ -525,7 +446,7 @@ public final class PromisesTest {
     }
 
     private static void linesOfDesk() {
-        promise = "6";
+        about("promise 6");
         EchoStudio x = played(1, "plug 11,15.9,9,8,7,6,60,129");
         int[] want = {15, 9, 8, 7, 6, 60, 129, 0};
         for (int w = 0; w < 8; w++) {
@@ -576,7 +497,7 @@ public final class PromisesTest {
     }
 
     private static void numbers() {
-        promise = "6";
+        about("promise 6");
         dueSum("0.1", 0.1);
         dueSum("123456.7891", 123456.7891);
         dueSum("999999.9999", 999999.9999);
@@ -644,7 +565,7 @@ public final class PromisesTest {
     }
 
     private static void waits() {
-        promise = "6";
+        about("promise 6");
         EchoStudio x = played(1, "set 0=1", "wait 2.9", "set 0=2");
         due("it waits", x.dial(0), bits(1.0));
         due("till", x.player(0, 2), 2);
@@ -669,7 +590,7 @@ public final class PromisesTest {
     }
 
     private static void ways() {
-        promise = "6";
+        about("promise 6");
         dueSum("dial(0)", 1, "if 1<2", "set 0=1", "else", "set 0=2", "end");
         dueSum("dial(0)", 2, "if 1>2", "set 0=1", "else", "set 0=2", "end");
         dueSum("dial(0)", 0, "if 1=2", "set 0=1", "end");
@@ -697,7 +618,7 @@ public final class PromisesTest {
     }
 
     private static void refusals() {
-        promise = "6";
+        about("promise 6");
         String[] words = {"missing", "off", "size", "room", "zero", "full", "deep", "none"};
         String[] lines = {"turn 9", "put 0=1", "loop 0,-1", "loop 0,301", "set 0=1/0", "start main", "do main", "drop 12"};
         for (int i = 0; i < 8; i++) {
@@ -747,7 +668,7 @@ public final class PromisesTest {
     }
 
     private static void worn() {
-        promise = "6";
+        about("promise 6");
         // Ten boxes are refused in every tick: worn in the tick of NOW 249, with SLOT 9 the last.
         EchoStudio x = new EchoStudio();
         StringBuilder plugs = new StringBuilder("part main\n");
@@ -808,7 +729,7 @@ public final class PromisesTest {
     }
 
     private static void act() {
-        promise = "7";
+        about("promise 7");
         double[] d3 = {1, 1 * 0.1 + 1, 2 * 0.1 + 1, 3 * 0.1 + 1, 4 * 0.1 + 1};
         EchoStudio x = loaded("head 0,0,1", "head 1,2,1");
         due("TAPE", x.act(0, 0, 1, 2, 0), 0);
@@ -894,7 +815,7 @@ public final class PromisesTest {
     }
 
     private static void actRefused() {
-        promise = "7";
+        about("promise 7");
         EchoStudio x = loaded("head 0,0,0", "head 1,2,5");
         due("OFF", x.act(0, 0, 1, 2, 0), 2);
         dueHeads(x, 1, 6, 0);
@@ -964,7 +885,7 @@ public final class PromisesTest {
     }
 
     private static void loop() {
-        promise = "8";
+        about("promise 8");
         EchoStudio x = played(1, "loop 0,4", "drum 11,0");
         due("singles", x.loop(0, 0), 0);
         due("length", x.loop(0, 1), 4);
@@ -979,7 +900,7 @@ public final class PromisesTest {
     }
 
     private static void cell() {
-        promise = "9";
+        about("promise 9");
         EchoStudio x = played(1, "loop 0,2", "drum 1,2", "head 0,0,0", "head 1,1,0", "put 0=-1.5", "put 0=0.1", "put 1=-1.5", "put 1=0.1");
         due("a single", x.cell(0, 0), bits(-1.5f));
         due("a single", x.cell(0, 1), bits(0.1f));
@@ -999,7 +920,7 @@ public final class PromisesTest {
     }
 
     private static void head() {
-        promise = "10";
+        about("promise 10");
         EchoStudio x = played(1, "head 9,11,-3");
         due("its loop", x.head(9, 0), 11);
         due("its place", x.head(9, 1), -3);
@@ -1010,7 +931,7 @@ public final class PromisesTest {
     }
 
     private static void dial() {
-        promise = "11";
+        about("promise 11");
         EchoStudio x = played(1, "set 9=-0.1", "set 0=1");
         due("its bits", x.dial(9), bits(-0.1));
         due("its bits", x.dial(0), bits(1.0));
@@ -1020,7 +941,7 @@ public final class PromisesTest {
     }
 
     private static void slot() {
-        promise = "12";
+        about("promise 12");
         EchoStudio x = played(3, "plug 11,3,1,2,3,4,2,5");
         int[] want = {3, 1, 2, 3, 4, 2, 5, 2};
         for (int w = 0; w < 8; w++) {
@@ -1034,7 +955,7 @@ public final class PromisesTest {
     }
 
     private static void player() {
-        promise = "13";
+        about("promise 13");
         EchoStudio x = new EchoStudio();
         readText(x, "part a\nset 0=1\nwait 5\nset 0=2\nend\npart b\ndo a\nend\n");
         x.play(1);
@@ -1059,7 +980,7 @@ public final class PromisesTest {
     }
 
     private static void count() {
-        promise = "14";
+        about("promise 14");
         EchoStudio x = played(1, "loop 0,2", "loop 1,3", "copy 2,0", "turn 1", "glide 0,1,9", "glide 1,1,9", "plug 0,3,0,0,0,0,1,0", "start two",
                 "try", "drop 99", "on none", "end", "set 0=dial(99)", "end", "part two", "wait 9");
         due("NOW", x.count(0), 1);
@@ -1085,7 +1006,7 @@ public final class PromisesTest {
     }
 
     private static void met() {
-        promise = "15";
+        about("promise 15");
         EchoStudio x = played(2, "plug 3,3,0,0,0,0,2,0", "wait 1", "do two", "end", "part two", "drop 99");
         due("NOW", x.met(0, 0), 1);
         due("kind", x.met(0, 1), 8);
@@ -1113,7 +1034,7 @@ public final class PromisesTest {
     }
 
     private static void peak() {
-        promise = "16";
+        about("promise 16");
         EchoStudio x = played(1, "loop 0,3", "drum 1,2", "loop 2,0", "loop 3,2", "head 0,0,0", "put 0=1", "put 0=-2.1", "head 1,1,0", "put 1=0.1",
                 "head 3,3,1", "put 3=-0");
         due("of singles", x.peak(0), bits((double) 2.1f));
