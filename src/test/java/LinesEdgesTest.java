@@ -43,6 +43,7 @@ public final class LinesEdgesTest extends Probe {
         recallOfNothingKept();
         sumAndLoud();
         nowAndHurt();
+        factorsWithinSums();
         finish();
     }
 
@@ -666,5 +667,46 @@ public final class LinesEdgesTest extends Probe {
         due("the latest stays", x.dial(2), bits(8.0));
         due("in a PART that is done", x.dial(3), bits(8.0));
         due("another PLAYER's", x.dial(4), 0);
+    }
+
+    private static void dueSum(String sum, double want) {
+        EchoStudio x = played(1, "loop 1,3", "head 1,1,0", "put 1=5", "put 1=-7", "head 1,1,1", "set 2=4", "set 9=" + sum, "set 8=1");
+        due(sum, x.dial(9), bits(want));
+        due(sum + ": not refused", x.dial(8), bits(1.0));
+    }
+
+    private static void factorsWithinSums() {
+        about("FACTORS within sums");
+        dueSum("100-dial(2)*10-1", 59);
+        dueSum("100-cell(1)*10-1", 169);
+        dueSum("100-place(1)*10-1", 89);
+        dueSum("100-length(1)*10-1", 69);
+        dueSum("100-sum(1)*10-1", 119);
+        dueSum("100-loud(1)*10-1", 29);
+        dueSum("100-abs(-2)*10-1", 79);
+        dueSum("100-whole(2.5)*10-1", 79);
+        dueSum("100-least(2,3)*10-1", 79);
+        dueSum("100-most(2,3)*10-1", 69);
+        dueSum("100-(-2)*10-1", 119);
+        dueSum("100--2*10-1", 119);
+        dueSum("100-now*10-1", 99);
+        dueSum("100-hurt*10-1", 99);
+        dueSum("least(abs(-2),length(1))+most(whole(4.5),sum(1))*loud(1)", 30);
+        dueSum("least(1+2*3,most(4,5)-1)-abs(least(-1,-2))", 2);
+        dueSum("2-3-4", -5);
+        dueSum("2-(3-4)", 3);
+        dueSum("24/4/2", 3);
+        dueSum("24/(4/2)", 12);
+        dueSum("24/4*2", 12);
+        dueSum("1+2*3-4/2", 5);
+        dueSum("(1+2)*(3-4)/2", -1.5);
+        dueSum("-2*3+-4*-5", 14);
+        dueSum("-(1+2)*--3", -9);
+        dueSum("dial(dial(2)-2)+dial(whole(2.9))", 8);
+        dueSum("dial(length(1)-place(1))", 4);
+        due("in each place of a LINE", played(1, "set 2=3", "head dial(2)+1,dial(2)-1,dial(2)*dial(2)").head(4, 1), 9);
+        due("in each place of a LINE", played(1, "set 2=3", "head dial(2)+1,dial(2)-1,dial(2)*dial(2)").head(4, 0), 2);
+        due("on both sides of a COND", played(1, "if abs(-2)+1<most(3,4)-0.5", "set 9=1", "end").dial(9), bits(1.0));
+        due("on both sides of a COND", played(1, "if abs(-2)+2<most(3,4)-0.5", "set 9=1", "end").dial(9), 0);
     }
 }

@@ -30,6 +30,7 @@ public final class PlayersEdgesTest extends Probe {
         aWaitThatIsRefused();
         stop();
         blocksWithoutLines();
+        aPlayerBehindOthers();
         finish();
     }
 
@@ -554,5 +555,37 @@ public final class PlayersEdgesTest extends Probe {
         due("they are gone through", x.dial(7), bits(1.0));
         due("it ended", x.count(2), 0);
         due("LINES", x.count(3), 10);
+    }
+
+    private static void aPlayerBehindOthers() {
+        about("a PLAYER that begins has nothing of one that was there before");
+        String late = part("late", "set 6=hurt", "set 5=dial(5)+1", "wait 3");
+        EchoStudio x = studio(part("a", "do b", told(1)), part("b", "try", "drop 99", "on any", "wait 9", "end"), late);
+        x.play(0);
+        x.run(1);
+        due("it waits in two PARTS", x.player(0, 1), 2);
+        due("read", readText(x, late), 0);
+        due("play", x.play(0), 1);
+        due("its PART", x.player(0, 0), 0);
+        due("one", x.player(0, 1), 1);
+        due("it doesn't wait", x.player(0, 2), NONE);
+        due("no LINES", x.player(0, 3), 0);
+        x.run(1);
+        due("hurt is 0 at first", x.dial(6), 0);
+        due("it plays", x.dial(5), bits(1.0));
+        x.run(4);
+        due("it ends", x.count(2), 0);
+        x = studio(part("a", "try", "drop 99", "on any", "end"), part("late", "set 6=hurt+1", "wait 3"));
+        x.play(0);
+        x.run(1);
+        x.play(1);
+        due("no LINES", x.player(0, 3), 0);
+        x.run(1);
+        due("hurt is 0 at first", x.dial(6), bits(1.0));
+        x = studio(part("a", "try", "drop 99", "on any", "stop", "end"), part("late", "set 6=hurt+1", "wait 3"), part("c", "start late", "wait 1"));
+        x.play(2);
+        x.play(0);
+        x.run(2);
+        due("hurt is 0 at first", x.dial(6), bits(1.0));
     }
 }

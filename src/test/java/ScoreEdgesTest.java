@@ -34,6 +34,10 @@ public final class ScoreEdgesTest extends Probe {
         withAFaultNothingChanges();
         withoutAFault();
         theTapeIsUsedUp();
+        aTextBehindAFaultyOne();
+        scoresBehindOneAnother();
+        theLargestScoresArePlayed();
+        textsFarBeyondTheLimits();
         finish();
     }
 
@@ -94,6 +98,8 @@ public final class ScoreEdgesTest extends Probe {
         due("part", fault("part"), at(0, 2));
         due("part a", fault("part a"), at(0, 2));
         due("within a LINE", fault("part a\nset 0="), at(1, 2));
+        due("behind a NUMBER's point and a digit", fault("part a\nset 0=1.5"), at(1, 2));
+        due("behind a NUMBER's point and four", fault("part a\nset 0=1.5678"), at(1, 2));
         due("behind a LINE", fault("part a\nset 0=1"), at(1, 2));
         due("behind a LINE and a byte 10", fault("part a\nset 0=1\n"), at(2, 2));
         EchoStudio x = studio("part a\nset 0=1\nend");
@@ -573,5 +579,103 @@ public final class ScoreEdgesTest extends Probe {
         due("nothing is on it", x.back(0), 0);
         due("the next text is fed from its beginning", readText(x, part("b") + part("c")), 0);
         due("PARTS", x.count(1), 2);
+    }
+
+    private static void aTextBehindAFaultyOne() {
+        about("a text behind a faulty one");
+        String[] faulty = {"part a\n" + repeated("try\n", 20), "part a\n" + repeated("if 0<1\nelse\n", 20) + "stop stop\n", "part a\nset 0=" + repeated("(", 20),
+            "part a\nset 0=" + repeated("-", 20) + "*", "part a\nset 0=" + repeated("abs(", 21), "part a\nwhile 0<1\n@", part("a", repeated("stop\n", 200) + "stop"),
+            part("a") + "part a\n", part("a", "do b"), "part a\ntry\non any\n"};
+        for (String one : faulty) {
+            EchoStudio x = new EchoStudio();
+            due("a fault", readText(x, one) == 0 ? 1 : 0, 0);
+            due("the plainest one", readText(x, part("a")), 0);
+            due("a fault", readText(x, one) == 0 ? 1 : 0, 0);
+            due("20 blocks", readText(x, blocks("try", 20, "")), 0);
+            due("a fault", readText(x, one) == 0 ? 1 : 0, 0);
+            due("20 (", readText(x, part("a", "set 0=" + nested("(", 20, ")"))), 0);
+            due("PARTS", x.count(1), 1);
+        }
+    }
+
+    private static void scoresBehindOneAnother() {
+        about("SCORES behind one another");
+        EchoStudio x = new EchoStudio();
+        for (int i = 1; i <= 5; i++) {
+            due("150 LINES", readText(x, part("a", repeated("stop\n", 149) + "stop")), 0);
+            due("20 PARTS", readText(x, thirtyParts(20)), 0);
+        }
+        x = new EchoStudio();
+        for (int i = 1; i <= 5; i++) {
+            due("77 whiles", readText(x, part("a", "set " + i + "=" + i + "\n" + repeated("while 0>1\nend\n", 77) + "set 0=" + i)), 0);
+            x.play(0);
+            x.run(2);
+            due("its first LINE", x.dial(i), bits((double) i));
+            due("its last LINE", x.dial(0), bits((double) i));
+            due("it ended", x.count(2), 0);
+            due("LINES", x.count(3), 79 * i);
+        }
+        x = new EchoStudio();
+        for (int i = 1; i <= 4; i++) {
+            due("900 TOKENS", readText(x, part("a", "set 0=" + i + repeated("+1", 445))), 0);
+            x.play(0);
+            x.run(1);
+            due("its sum", x.dial(0), bits(445.0 + i));
+        }
+    }
+
+    private static void theLargestScoresArePlayed() {
+        about("the largest SCORES are played");
+        EchoStudio x = studio(part("a", repeated("while 0>1\nend\n", 165) + "set 7=1"));
+        x.play(0);
+        x.run(5);
+        due("165 whiles", x.dial(7), bits(1.0));
+        due("LINES", x.count(3), 166);
+        x = studio(part("a", repeated("try\ndrop 9\non any\nend\n", 66) + "set 7=1"));
+        x.play(0);
+        x.run(5);
+        due("66 tries", x.dial(7), bits(1.0));
+        due("LINES", x.count(3), 133);
+        x = studio(part("a", repeated("try\ndrop 99\non off\non any\nend\n", 49) + "set 7=1"));
+        x.play(0);
+        x.run(5);
+        due("49 tries, refused", x.dial(7), bits(1.0));
+        due("taken", x.count(7), 49);
+        StringBuilder parts = new StringBuilder();
+        for (int i = 0; i < 30; i++) {
+            String name = (char) ('a' + i % 26) + (i < 26 ? "" : "x");
+            parts.append(part(name, "set 7=" + i, "if 0<1", "else", "set 6=1", "end", "stop"));
+        }
+        x = studio(parts.toString());
+        for (int i = 29; i >= 0; i--) {
+            x.play(i);
+            x.run(1);
+            due("PART " + i, x.dial(7), bits((double) i));
+        }
+        due("LINES", x.count(3), 90);
+        due("no else", x.dial(6), 0);
+    }
+
+    private static void textsFarBeyondTheLimits() {
+        about("texts far beyond the limits of fault 6");
+        due("280 whiles", fault(part("a", repeated("while 0<1\nend\n", 279) + "while 0<1\nend")), 6);
+        due("260 tries with ons", fault(part("a", repeated("try\non any\nend\n", 259) + "try\non any\nend")), 6);
+        due("one try with 560 ons", fault(part("a", "try\n" + repeated("on any\n", 560) + "end")), 6);
+        due("797 does", fault(part("a", repeated("do a\n", 796) + "do a")), 6);
+        due("797 does, the last one of no PART", fault(part("a", repeated("do a\n", 796) + "do b")), 5);
+        due("797 does, the first one of no PART", fault(part("a", "do b\n" + repeated("do a\n", 795) + "do a")), 5);
+        StringBuilder parts = new StringBuilder();
+        for (int i = 0; i < 300; i++) {
+            parts.append("part ").append((char) ('a' + i / 26)).append((char) ('a' + i % 26)).append("\nend\n");
+        }
+        due("300 PARTS", fault(parts.toString()), 6);
+        due("the 301st is told twice", fault(parts + part("aa")), at(600, 3));
+        due("the 301st is told twice", fault(parts + part("ln")), at(600, 3));
+        due("a do of the 300th", fault(parts + part("x", "do ln")), 6);
+        due("a do of none", fault(parts + part("x", "do lo")), 5);
+        due("a fault behind 1,900 TOKENS", fault(part("a", "set 0=1" + repeated("+1", 950)) + "@"), at(3, 1));
+        due("a fault behind 300 LINES", fault(part("a", repeated("stop\n", 300) + "stop stop")), at(301, 2));
+        due("20 open behind 200 LINES", fault(part("a", repeated("stop\n", 210) + repeated("try\n", 20) + repeated(END, 19) + "end")), 6);
+        due("21 open behind 200 LINES", fault(part("a", repeated("stop\n", 210) + repeated("try\n", 21) + repeated(END, 20) + "end")), at(231, 4));
     }
 }
