@@ -2054,7 +2054,8 @@ public final class EchoStudio {
                 int on = onFor(refusal, score.guard[player.at[depth - 1]]);
                 if (on != NONE) {
                     player.depth = depth;
-                    player.goTo(on);
+                    // When it is WORN the on is gone into all the same, but it is no LINE that could still be done.
+                    player.goTo(ledger.worn() ? on + 1 : on);
                     player.hurt = refusal;
                     ledger.taken++;
                     return;

@@ -1218,7 +1218,7 @@ public final class ModelTest {
                         if (on.name.equals("any") || on.name.equals(words[kind])) {
                             m.levels.remove(m.levels.size() - 1);
                             Level next = new Level("on", on.body, level.owner, level.part);
-                            next.atOn = true;
+                            next.atOn = !worn();
                             m.levels.add(next);
                             m.hurt = kind;
                             taken++;

@@ -24,6 +24,7 @@ public final class RefusalsEdgesTest extends Probe {
         theTwoThousandFiveHundredthOfABox();
         itsAnswerIsGiven();
         theTwoThousandFiveHundredthOfALine();
+        theTwoThousandFiveHundredthWithAnEmptyOn();
         theTwoThousandFiveHundredthWithoutAnOn();
         theTwoThousandFiveHundredthOfABurst();
         playersWhenItIsWorn();
@@ -410,6 +411,42 @@ public final class RefusalsEdgesTest extends Probe {
         due("an on around its do", x.player(0, 0), 0);
         due("in one PART again", x.player(0, 1), 1);
         due("LINES: try, do, do, drop", x.player(0, 3), 4);
+        due("taken", x.count(7), 1);
+    }
+
+    private static void theTwoThousandFiveHundredthWithAnEmptyOn() {
+        about("the 2,500th of a LINE, whose on has no LINES: it is taken, but is no LINE any more");
+        String[] some = {"try", "drop 99", "on any", "end"};
+        EchoStudio x = nearly(2498, part("a", some));
+        x.play(0);
+        x.run(1);
+        due("the 2,499th: try, drop, on", x.count(3), 25);
+        due("it ended", x.count(2), 0);
+        x.play(0);
+        x.run(1);
+        due("the 2,500th: try, drop", x.count(3), 27);
+        due("taken", x.count(7), 2);
+        due("nothing is behind it: it ended", x.count(2), 0);
+        due("none FELL", x.count(8), 0);
+        x = nearly(2499, part("a", "try", "drop 99", "on any", "end", told(1)));
+        x.play(0);
+        x.run(3);
+        due("a LINE is behind it: it stays", x.count(2), 1);
+        due("no LINE", x.dial(7), 0);
+        x = nearly(2499, part("a", "do b", told(1)), part("b", some));
+        x.play(0);
+        x.run(1);
+        due("it goes on behind its do", x.player(0, 0), 0);
+        due("in one PART", x.player(0, 1), 1);
+        due("do, try, drop", x.player(0, 3), 3);
+        x.run(3);
+        due("it stays there", x.count(2), 1);
+        due("no LINE", x.dial(7), 0);
+        x = nearly(2499, part("a", repeated("wait 0\n", 38) + String.join("\n", some)));
+        x.play(0);
+        x.run(1);
+        due("forty LINES", x.count(3), 22 + 40);
+        due("the fortieth was the 2,500th: it ended", x.count(2), 0);
         due("taken", x.count(7), 1);
     }
 
